@@ -149,6 +149,11 @@ public final class DeedsTest {
         y.send(1, 0);
         Due.is("18: 40 deeds", y.count(2), 40);
         Due.refuses("18: STATE ahead of FULL", y, SnowHut.STATE, y::wood);
+        y.undo(37);
+        y.send(1, 0);
+        Due.is("18: the 39th deed", y.say(4), 19);
+        Due.is("18: the 40th", y.wood(), 0);
+        Due.is("18: 40 deeds", y.count(2), 40);
     }
 
     private static void undo() {
@@ -178,6 +183,8 @@ public final class DeedsTest {
         Due.is("19: all", x.undo(0), 1);
         Due.is("19: nobody is up", x.count(4), 0);
         Due.is("19: no deeds", x.count(2), 0);
+        Due.tells("19: the first is not up", x, x.guest(0, 6), 0);
+        Due.tells("19: the second is not up", x, x.guest(1, 6), 0);
         Due.weighs("19: as at first", x, 0, 6, 4, 0, 0);
         Due.is("19: done anew", x.send(0, 1), 1);
         Due.is("19: as the first time", x.digest(), afterSend);
@@ -213,6 +220,10 @@ public final class DeedsTest {
         Due.is("21: nobody is up", x.count(4), 0);
         Due.is("20: the last place", x.keep(1), 0);
         Due.is("20: all three", x.count(10), 3);
+        x.send(1, 2);
+        x.wood();
+        Due.is("21: whichever deeds there are now", x.on(0), 1);
+        Due.is("21: who is up", x.count(4), 1);
     }
 
     private static void keepRefused() {

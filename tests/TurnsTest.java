@@ -163,9 +163,12 @@ public final class TurnsTest {
         SnowHut follows = Due.hutWithTwoUp("w00 f01 g9909 g4309");
         Due.fill(follows, 0, 0, 1);
         midIs(follows, 6, 7, 4);
-        SnowHut all = Due.hutWithTwoUp("w00 g9999 h3333");
+        SnowHut all = Due.hutWithTwoUp("w00 g9999 h3333 g9000");
         Due.fill(all, 0, 0, 1, 2, 3, 4, 5);
         midIs(all, 7, 4, 1);
+        all.send(0, 2);
+        midIs(all, 12, 1, 1);
+        oddsAre(all, 1, 12, 0, 1);
         SnowHut long6 = Due.hutWithTwoUp("w00 g9000 g0000");
         Due.fill(long6, 0, 0, 0, 0, 0, 0, 0);
         midIs(long6, 1, 2737867, 2985984);
