@@ -124,6 +124,8 @@ public final class TalksTest {
         Due.rowIs("25: the row stays", x, 2, 7, 8);
         SnowHut y = Due.hutWithTwoUp("w00 g9900 b9400");
         Due.refuses("25: a bishop is not moved", y, SnowHut.NONE, () -> y.soonest(0, 0));
+        SnowHut silent = Due.hutWithTwoUp("w00 g4000 g4000");
+        Due.refuses("25: neither can say it", silent, SnowHut.NONE, () -> silent.soonest(1, 0));
         SnowHut z = Due.hutWithTwoUp("w00 g9900 g9000 g8000");
         Due.is("25: five", z.soonest(0, 0), 5);
         SnowHut six = Due.hutWithTwoUp("w00 g9990 g9040");

@@ -1298,6 +1298,19 @@ public final class SnowHut {
             return one.held() ^ two.held();
         }
 
+        /**
+         * SAYINGS (bits) that can be, of a CLAIM that who HEARS it does not HOLD. The others are
+         * idle: one who HOLDS a CLAIM goes on HOLDING it, and nothing hangs on how much it WEIGHS
+         * then. So searches need not try them one by one.
+         */
+        private int turning() {
+            return one.held() & ~two.held() | (two.held() & ~one.held()) << CLAIMS;
+        }
+
+        private int idle() {
+            return 2 * Integer.bitCount(shared());
+        }
+
         /** What the CLAIM weighed ahead to who HEARD it. */
         int utter(int saying) {
             return (saying < CLAIMS ? two : one).hears(saying % CLAIMS, reasons);
@@ -1326,8 +1339,10 @@ public final class SnowHut {
             if (depth >= n || depth >= SOUGHT_MOST) {
                 return talks.unshared() == 0 && (talks.shared() & talks.wanted) == talks.wanted;
             }
+            // An idle SAYING is in no shortest TALK.
+            int turning = talks.turning();
             for (int saying = 0; saying < SAYINGS; saying++) {
-                if (talks.canSay(saying)) {
+                if ((turning >> saying & 1) != 0) {
                     int weighed = talks.utter(saying);
                     talks.said[depth] = saying;
                     boolean reached = reaches(talks, depth + 1, n);
@@ -1345,7 +1360,7 @@ public final class SnowHut {
             wanted = claims;
             talksFound = 0;
             inAll = ALL_CLAIMS;
-            tryAll(this, Math.min(n, SOUGHT_MOST));
+            tryAll(this, Math.min(n, SOUGHT_MOST), 1);
             return talksFound;
         }
 
@@ -1354,23 +1369,27 @@ public final class SnowHut {
             return talksFound == 0 ? 0 : inAll;
         }
 
-        private static void tryAll(Talks talks, int left) {
+        private static void tryAll(Talks talks, int left, long times) {
             if (left <= 0) {
-                talks.arrive();
+                talks.arrive(times);
                 return;
             }
+            if (talks.idle() > 0) {
+                tryAll(talks, left - 1, times * talks.idle());
+            }
+            int turning = talks.turning();
             for (int saying = 0; saying < SAYINGS; saying++) {
-                if (talks.canSay(saying)) {
+                if ((turning >> saying & 1) != 0) {
                     int weighed = talks.utter(saying);
-                    tryAll(talks, left - 1);
+                    tryAll(talks, left - 1, times);
                     talks.takeBack(saying, weighed);
                 }
             }
         }
 
-        private void arrive() {
+        private void arrive(long times) {
             if ((shared() & wanted) == wanted) {
-                talksFound++;
+                talksFound += times;
                 inAll &= shared();
             }
         }
@@ -1380,9 +1399,13 @@ public final class SnowHut {
         }
 
         private static int bestFor(Talks talks, int left, boolean wantsMany) {
-            int best = NONE;
-            for (int saying = 0; saying < SAYINGS && left > 0; saying++) {
-                if (talks.canSay(saying)) {
+            if (left <= 0) {
+                return Integer.bitCount(talks.shared());
+            }
+            int best = talks.idle() > 0 ? bestFor(talks, left - 1, !wantsMany) : NONE;
+            int turning = talks.turning();
+            for (int saying = 0; saying < SAYINGS; saying++) {
+                if ((turning >> saying & 1) != 0) {
                     int weighed = talks.utter(saying);
                     int comes = bestFor(talks, left - 1, !wantsMany);
                     talks.takeBack(saying, weighed);
@@ -1391,8 +1414,8 @@ public final class SnowHut {
                     }
                 }
             }
-            // Where nothing can be said now, nothing can be said in the turns that are left.
-            return best == NONE ? Integer.bitCount(talks.shared()) : best;
+            // Where nothing can be said, nobody HOLDS a CLAIM, in the turns that are left, too.
+            return best == NONE ? 0 : best;
         }
 
         /** Goes through a TALK of a ROW of which each SAYING is not heard by p of twelve. */
