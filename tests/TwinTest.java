@@ -3,16 +3,10 @@ import java.util.Random;
 /** All promises: the class and its twin answer many calls, drawn by fixed seeds, alike. */
 public final class TwinTest {
     private static final int OBJECTS = 150, CALLS = 500;
-    private static final String[] NAMES = {"", "", "row", "lay", "at", "tear", "copy", "mean", "text", "put",
-        "fault", "hut", "guest", "mark", "follows", "moved", "send", "say", "wood", "undo", "keep", "on", "both",
-        "can", "talk", "soonest", "ways", "match", "sets", "change", "kinds", "test", "duel", "odds", "mid", "lots",
-        "asked", "upper", "lower", "count", "finding", "findings", "digest"};
 
     private final Random lot;
-    private final SnowHut x = new SnowHut();
-    private final Twin twin = new Twin();
+    private final Pair pair = new Pair();
     private final int[] answered;
-    private int calls = 0;
 
     private TwinTest(long seed, int[] answered) {
         lot = new Random(seed);
@@ -25,17 +19,17 @@ public final class TwinTest {
             new TwinTest(seed, answered).run();
         }
         for (int promise = 2; promise <= 42; promise++) {
-            Due.is("calls of " + NAMES[promise] + "() that were not refused are some", answered[promise] >= 20 ? 1 : 0, 1);
+            Due.is("calls of " + Pair.NAMES[promise] + "() that were not refused are some", answered[promise] >= 20 ? 1 : 0, 1);
         }
         Due.end("TwinTest");
     }
 
     private void run() {
-        while (calls < CALLS) {
-            int kind = lot.nextInt(calls < 80 ? 12 : 60);
-            if (kind == 0 && calls < CALLS - 70) {
+        while (pair.calls() < CALLS) {
+            int kind = lot.nextInt(pair.calls() < 80 ? 12 : 60);
+            if (kind == 0 && pair.calls() < CALLS - 70) {
                 write();
-            } else if (kind == 1 && calls < CALLS - 60) {
+            } else if (kind == 1 && pair.calls() < CALLS - 60) {
                 fill();
             } else {
                 any();
@@ -44,20 +38,7 @@ public final class TwinTest {
     }
 
     private void both(int promise, int... a) {
-        calls++;
-        long want = twin.call(promise, a);
-        long got = SnowHutCalls.call(x, promise, a);
-        StringBuilder what = new StringBuilder(NAMES[promise]).append('(');
-        for (int i = 0; i < a.length; i++) {
-            what.append(i == 0 ? "" : ", ").append(a[i]);
-        }
-        Due.is(what + ")", got, want);
-        Due.is(what + "), asked()", x.asked(), (int) twin.call(36, a));
-        Due.is(what + "), upper()", x.upper(), twin.call(37, a));
-        Due.is(what + "), lower()", x.lower(), twin.call(38, a));
-        Due.is(what + "), finding()", x.finding(), twin.call(40, a));
-        Due.is(what + "), digest()", x.digest(), twin.call(42, a));
-        answered[promise] += got >= 0 ? 1 : 0;
+        answered[promise] += pair.call(promise, a) >= 0 ? 1 : 0;
     }
 
     /** A TEXT, most times of a HUT, and then the HUT. */
