@@ -86,6 +86,12 @@ public final class FaultsTest {
         for (String letter : new String[] {"g", "b", "a", "m", "c", "h", "f", "v", "x", "W", "0", "w "}) {
             faultIs(letter + "12g0000b0000", letter.equals("w ") ? 1 : 0);
         }
+        // A sign that is no figure is a FAULT by itself, also behind a figure that is too great.
+        for (String first : new String[] {"w0", "w4", "w5", "w9"}) {
+            faultIs(first, 2);
+            faultIs(first + "x", 2);
+            faultIs(first + " 0g0000b0000", 2);
+        }
         faultIs("w1", 2);
         faultIs("w1g0000b0000", 2);
         faultIs("wg0000b0000", 1);
