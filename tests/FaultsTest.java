@@ -18,6 +18,7 @@ public final class FaultsTest {
         reasons();
         guests();
         blanks();
+        twoSigns();
         Due.end("FaultsTest");
     }
 
@@ -162,5 +163,25 @@ public final class FaultsTest {
         faultIs("w12g0000b0000\n", 13);
         faultIs("w12g0000b0000" + (char) 0, 13);
         faultIs("w12g0000b0000" + (char) 160, 13);
+    }
+
+    private static boolean isFigure(char sign, int limit) {
+        return sign >= '0' && sign < '0' + limit;
+    }
+
+    /** Two signs where two figures are due: the first of them that is none is the FAULT. */
+    private static void twoSigns() {
+        String signs = "/0123456789: wfgbamch" + (char) 0 + (char) 127 + (char) 128 + (char) 176 + (char) 255;
+        for (int i = 0; i < signs.length(); i++) {
+            for (int j = 0; j < signs.length(); j++) {
+                char a = signs.charAt(i);
+                char b = signs.charAt(j);
+                boolean above = isFigure(a, 10) && isFigure(b, 10) && 10 * (a - '0') + b - '0' > 40;
+                faultIs("w" + a + b + "g0000b0000", !isFigure(a, 10) || above ? 1 : !isFigure(b, 10) ? 2 : NONE);
+                faultIs("w12f" + a + b + "g0000b0000", !isFigure(a, 4) ? 4 : !isFigure(b, 4) || a == b ? 5 : NONE);
+                faultIs("w12g0000b0" + a + b + "0", !isFigure(a, 10) ? 10 : !isFigure(b, 10) ? 11 : NONE);
+                faultIs("w12g0000b00" + a + b, !isFigure(a, 10) ? 11 : !isFigure(b, 10) ? 12 : NONE);
+            }
+        }
     }
 }

@@ -1,13 +1,22 @@
+import com.sun.source.tree.ArrayAccessTree;
+import com.sun.source.tree.AssignmentTree;
 import com.sun.source.tree.BinaryTree;
 import com.sun.source.tree.BlockTree;
 import com.sun.source.tree.ClassTree;
 import com.sun.source.tree.CompilationUnitTree;
+import com.sun.source.tree.CompoundAssignmentTree;
+import com.sun.source.tree.DoWhileLoopTree;
+import com.sun.source.tree.ExpressionTree;
 import com.sun.source.tree.ForLoopTree;
+import com.sun.source.tree.IdentifierTree;
 import com.sun.source.tree.ImportTree;
+import com.sun.source.tree.MemberSelectTree;
 import com.sun.source.tree.MethodInvocationTree;
 import com.sun.source.tree.MethodTree;
+import com.sun.source.tree.NewArrayTree;
 import com.sun.source.tree.NewClassTree;
 import com.sun.source.tree.Tree;
+import com.sun.source.tree.TypeCastTree;
 import com.sun.source.tree.VariableTree;
 import com.sun.source.tree.WhileLoopTree;
 import com.sun.source.util.JavacTask;
@@ -26,6 +35,7 @@ import java.util.TreeSet;
 import javax.lang.model.element.Element;
 import javax.lang.model.element.ElementKind;
 import javax.lang.model.element.Modifier;
+import javax.lang.model.type.TypeKind;
 import javax.lang.model.type.TypeMirror;
 import javax.tools.JavaCompiler;
 import javax.tools.StandardJavaFileManager;
@@ -38,12 +48,14 @@ public final class FormTest extends TreePathScanner<Void, Void> {
     private static final Set<Tree.Kind> NEVER = Set.of(Tree.Kind.THROW, Tree.Kind.TRY, Tree.Kind.CATCH,
         Tree.Kind.SYNCHRONIZED, Tree.Kind.ASSERT, Tree.Kind.LAMBDA_EXPRESSION, Tree.Kind.MEMBER_REFERENCE,
         Tree.Kind.ANNOTATION, Tree.Kind.STRING_LITERAL, Tree.Kind.DOUBLE_LITERAL, Tree.Kind.FLOAT_LITERAL,
-        Tree.Kind.INSTANCE_OF, Tree.Kind.UNION_TYPE);
+        Tree.Kind.INSTANCE_OF, Tree.Kind.UNION_TYPE, Tree.Kind.NULL_LITERAL, Tree.Kind.PARAMETERIZED_TYPE);
     /** What the class calls of the library; LANGUAGE.md lets it call more. */
     private static final Set<String> LIBRARY = Set.of("java.lang.Math.min", "java.lang.Math.max",
         "java.lang.Math.abs", "java.lang.Integer.bitCount", "java.lang.System.arraycopy");
     private static final Set<String> TYPES = Set.of("int", "long", "byte", "boolean", "char", "int[]", "int[][]",
         "long[]", "void");
+    private static final Set<Tree.Kind> STEPS = Set.of(Tree.Kind.PREFIX_INCREMENT, Tree.Kind.PREFIX_DECREMENT,
+        Tree.Kind.POSTFIX_INCREMENT, Tree.Kind.POSTFIX_DECREMENT);
 
     private final Trees trees;
     private final CompilationUnitTree unit;
@@ -163,12 +175,21 @@ public final class FormTest extends TreePathScanner<Void, Void> {
                 boolean isStatic = modifiers.contains(Modifier.STATIC);
                 fields += isStatic ? 0 : 1;
                 holds("a static field is final, " + at(field), !isStatic || modifiers.contains(Modifier.FINAL));
+                holds("a static field is written out, " + at(field), !isStatic || isWrittenOut(field.getInitializer()));
                 holds("a name is used once, " + at(field), names.add(field.getName().toString()));
             }
             holds("no initialiser block, " + at(member), !(member instanceof BlockTree));
         }
         atMost("fields of the class in " + at(tree), fields, FIELDS);
         return super.visitClass(tree, nothing);
+    }
+
+    /** A constant, or an array of constants. */
+    private boolean isWrittenOut(ExpressionTree value) {
+        if (value instanceof NewArrayTree array) {
+            return array.getDimensions().isEmpty() && array.getInitializers().stream().allMatch(this::isWrittenOut);
+        }
+        return value != null && !value.toString().contains("(") && !value.toString().contains("new ");
     }
 
     @Override
@@ -178,6 +199,9 @@ public final class FormTest extends TreePathScanner<Void, Void> {
         atMost("lines of the method in " + at(tree), last - first + 1, METHOD_LINES);
         atMost("parameters of the method in " + at(tree), tree.getParameters().size(), PARAMETERS);
         holds("no throws, " + at(tree), tree.getThrows().isEmpty());
+        if (tree.getReturnType() != null) {
+            checkType(tree.getReturnType());
+        }
         String name = tree.getName().toString();
         holds("no equals, hashCode, toString, " + at(tree), !Set.of("equals", "hashCode", "toString").contains(name));
         calls.putIfAbsent(trees.getElement(getCurrentPath()), new HashSet<>());
@@ -186,11 +210,63 @@ public final class FormTest extends TreePathScanner<Void, Void> {
 
     @Override
     public Void visitVariable(VariableTree tree, Void nothing) {
-        TypeMirror type = trees.getTypeMirror(new TreePath(getCurrentPath(), tree.getType()));
-        String name = type.toString();
-        boolean own = name.startsWith("SnowHut.") && !name.contains("[][]");
-        holds("type " + name + ", " + at(tree), TYPES.contains(name) || own);
+        checkType(tree.getType());
         return super.visitVariable(tree, nothing);
+    }
+
+    private void checkType(Tree type) {
+        TypeMirror mirror = trees.getTypeMirror(new TreePath(getCurrentPath(), type));
+        String name = mirror.toString();
+        boolean own = name.startsWith("SnowHut.") && !name.contains("[][]");
+        holds("type " + name + ", " + at(type), TYPES.contains(name) || own);
+    }
+
+    @Override
+    public Void visitTypeCast(TypeCastTree tree, Void nothing) {
+        TypeMirror type = trees.getTypeMirror(new TreePath(getCurrentPath(), tree.getType()));
+        holds("a cast to a number, " + at(tree), type.getKind().isPrimitive());
+        return super.visitTypeCast(tree, nothing);
+    }
+
+    /** An array that is static is read alone: by its places or its length. */
+    @Override
+    public Void visitIdentifier(IdentifierTree tree, Void nothing) {
+        Element named = trees.getElement(getCurrentPath());
+        boolean field = named != null && named.getKind() == ElementKind.FIELD;
+        if (field && named.getModifiers().contains(Modifier.STATIC) && named.asType().getKind() == TypeKind.ARRAY) {
+            TreePath use = getCurrentPath().getParentPath();
+            boolean place = use.getLeaf() instanceof ArrayAccessTree access && access.getExpression() == tree;
+            boolean length = use.getLeaf() instanceof MemberSelectTree select && select.getIdentifier().contentEquals("length");
+            boolean read = !changes(use.getParentPath().getLeaf(), use.getLeaf());
+            holds("a static array stays as it is, " + at(tree), (place || length) && read);
+        }
+        return super.visitIdentifier(tree, nothing);
+    }
+
+    private static boolean changes(Tree whole, Tree place) {
+        if (whole instanceof AssignmentTree into) {
+            return into.getVariable() == place;
+        }
+        if (whole instanceof CompoundAssignmentTree into) {
+            return into.getVariable() == place;
+        }
+        return STEPS.contains(whole.getKind());
+    }
+
+    /** All that is made is made with the object: in constructors, and where fields are. */
+    private boolean isMadeWithTheObject() {
+        for (TreePath path = getCurrentPath(); path != null; path = path.getParentPath()) {
+            if (path.getLeaf() instanceof MethodTree method) {
+                return method.getName().contentEquals("<init>");
+            }
+        }
+        return true;
+    }
+
+    @Override
+    public Void visitNewArray(NewArrayTree tree, Void nothing) {
+        holds("an array is made with the object, " + at(tree), isMadeWithTheObject());
+        return super.visitNewArray(tree, nothing);
     }
 
     @Override
@@ -207,6 +283,7 @@ public final class FormTest extends TreePathScanner<Void, Void> {
     public Void visitNewClass(NewClassTree tree, Void nothing) {
         Element made = trees.getElement(getCurrentPath());
         holds("made of the own classes, " + at(tree), isOwn(made) && tree.getClassBody() == null);
+        holds("an object is made with the object, " + at(tree), isMadeWithTheObject());
         opens(made);
         return super.visitNewClass(tree, nothing);
     }
@@ -240,5 +317,11 @@ public final class FormTest extends TreePathScanner<Void, Void> {
         boolean bound = tree.getCondition() != null && tree.getCondition().toString().matches(".*(<|>).*");
         holds("a loop counts up to an end, " + at(tree), bound && tree.getUpdate().size() == 1);
         return super.visitForLoop(tree, nothing);
+    }
+
+    @Override
+    public Void visitDoWhileLoop(DoWhileLoopTree tree, Void nothing) {
+        holds("no loop whose end comes behind it, " + at(tree), false);
+        return super.visitDoWhileLoop(tree, nothing);
     }
 }

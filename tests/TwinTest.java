@@ -18,23 +18,47 @@ public final class TwinTest {
         for (int seed = 1; seed <= OBJECTS; seed++) {
             new TwinTest(seed, answered).run();
         }
+        beside(answered);
         for (int promise = 2; promise <= 42; promise++) {
             Due.is("calls of " + Pair.NAMES[promise] + "() that were not refused are some", answered[promise] >= 20 ? 1 : 0, 1);
         }
         Due.end("TwinTest");
     }
 
-    private void run() {
-        while (pair.calls() < CALLS) {
-            int kind = lot.nextInt(pair.calls() < 80 ? 12 : 60);
-            if (kind == 0 && pair.calls() < CALLS - 70) {
-                write();
-            } else if (kind == 1 && pair.calls() < CALLS - 60) {
-                fill();
-            } else {
-                any();
+    /** Some objects by turns: what is done to one is nothing to the others. */
+    private static void beside(int[] answered) {
+        TwinTest[] some = new TwinTest[6];
+        for (int i = 0; i < some.length; i++) {
+            some[i] = new TwinTest(OBJECTS + 1 + i, answered);
+        }
+        for (boolean on = true; on;) {
+            on = false;
+            for (TwinTest one : some) {
+                on |= one.step();
             }
         }
+    }
+
+    private void run() {
+        while (step()) {
+            // Each step makes its calls; there is nothing to do between two of them.
+        }
+    }
+
+    /** Some calls more; false when there were as many as there are to be. */
+    private boolean step() {
+        if (pair.calls() >= CALLS) {
+            return false;
+        }
+        int kind = lot.nextInt(pair.calls() < 80 ? 12 : 60);
+        if (kind == 0 && pair.calls() < CALLS - 70) {
+            write();
+        } else if (kind == 1 && pair.calls() < CALLS - 60) {
+            fill();
+        } else {
+            any();
+        }
+        return true;
     }
 
     private void both(int promise, int... a) {
