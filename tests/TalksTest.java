@@ -114,6 +114,11 @@ public final class TalksTest {
         SnowHut both = Due.hutWithTwoUp("w00 g4900 g9400");
         Due.is("25: one each", both.soonest(0, 1), 2);
         Due.rowIs("25: the first saying first", both, 1, 1, 4);
+        SnowHut last = Due.hutWithTwoUp("w00 g0004 g0009");
+        Due.is("25: the second says 3", last.soonest(0, 1), 1);
+        Due.rowIs("25: the second says 3", last, 1, 7);
+        Due.is("25: and both hold it", last.soonest(8, 1), 1);
+        Due.rowIs("25: and both hold it", last, 1, 7);
     }
 
     private static void soonestNone() {
@@ -174,6 +179,13 @@ public final class TalksTest {
         Due.fill(lower, 0, 4);
         Due.shares("33: three of four", lower, lower.odds(0, 0, 3), 3, 4);
         waysAre(lower, 1, 1, 1, 1);
+        // There is no talk of one saying but this, so none behind which they hold nothing both.
+        waysAre(lower, 0, 1, 1, 1);
+        SnowHut last = Due.hutWithTwoUp("w00 g0004 g0009");
+        waysAre(last, 0, 0, 1, 0);
+        waysAre(last, 0, 1, 1, 8);
+        waysAre(last, 8, 1, 1, 8);
+        waysAre(last, 8, 2, 2, 8);
     }
 
     private static void waysRefused() {
@@ -208,6 +220,10 @@ public final class TalksTest {
         Due.answers("27: by one, without wood", later, later.match(), 12, 1);
         SnowHut fewer = Due.hut("w00 g9200 g9900 g9300");
         Due.answers("27: the same claims aside of weights", fewer, fewer.match(), 2, 0);
+        SnowHut other = Due.hut("w00 b9000 b0900 b0909 b0900");
+        Due.answers("27: by another claim", other, other.match(), 13, 0);
+        SnowHut nothing = Due.hut("w00 b9000 b0000 b0004");
+        Due.answers("27: by nothing that they hold", nothing, nothing.match(), 12, 0);
         SnowHut less = Due.hut("w00 g9200 g9930 g9960 m5555");
         Due.answers("27: a later pair by fewer", less, less.match(), 12, 2);
     }

@@ -38,6 +38,7 @@ public final class TurnsTest {
         duelsAre(" g0000 g4444", 0, 0, 0, 0, 0, 0);
         duelsAre(" g9999 h9999", 4, 4, 4, 4, 4, 4);
         duelsAre(" g4900 g9400", 0, 1, 1, 2, 2, 2);
+        duelsAre(" g0004 g0009", 0, 1, 1, 1, 1, 1);
         SnowHut x = Due.hutWithTwoUp("w01 g9000 g3000");
         Due.is("32: as it is now", x.duel(1), 0);
         x.say(0);
